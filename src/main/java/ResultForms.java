@@ -628,7 +628,10 @@ public final class ResultForms {
         }
     }
 
-    /** Goes along the tape; where a method answers false or NONE, the fault is told and the reading is over. */
+    /**
+     * Goes along the tape. What took it or not only looks; all else that answers false or NONE has
+     * met the first fault, and the reading is over.
+     */
     private static final class Scanner {
         private final Bytes tape;
         private int place;

@@ -56,7 +56,7 @@ final class FaultTest {
         String literal = "{\"x\":{\"type\":\"literal\",\"value\":\"a\"";
         String[] rows = {"~", "~x", "~,", "{},~]", "{}~{", "{} ~}", "{~x", "{~,", "{\"~\"", "{\"~z\"", "{\"~xx\"", "{\"~X\"",
             "{\"x~X", "{\"x\"~,", "{\"x\":~\"", "{\"x\":{\"~value\"", "{\"x\":{\"type\":~u", "{\"x\":{\"type\":\"~\"",
-            "{\"x\":{\"type\":\"~url\"", "{\"x\":{\"type\":\"~urix\"", "{\"x\":{\"type\":\"~literals\"", "{\"x\":{\"type\":\"~bnod\"",
+            "{\"x\":{\"type\":\"~url\"", "{\"x\":{\"type\":\"~ari\"", "{\"x\":{\"type\":\"~urix\"", "{\"x\":{\"type\":\"~literals\"", "{\"x\":{\"type\":\"~bnod\"",
             "{\"x\":{\"type\":\"uri~", "{\"x\":{\"type\":\"uri~ \"", "{\"x\":{\"type\":\"uri\"~}", "{\"x\":{\"type\":\"uri\",\"~type\"",
             x + "~", x + "~]", x + "~,\"xml:lang\":\"en\"", x + "}~]", x + "},~}", x + "},\"~x\"", x + "},\"~z\"",
             "{\"y\":{\"type\":\"uri\",\"value\":\"a\"},\"~x\"", "{\"y\":{\"type\":\"uri\",\"value\":\"a\"},\"~y\"",
@@ -66,11 +66,23 @@ final class FaultTest {
             literal + ",\"xml:lang\":\"~eng\"", literal + ",\"xml:lang\":\"~EN\"", literal + ",\"xml:lang\":\"en~-",
             literal + ",\"xml:lang\":\"en\"~,", literal + ",\"xml:lang\":\"en\"~,\"datatype\":\"date\"",
             literal + ",\"datatype\":\"~\"", literal + ",\"datatype\":\"~int\"", literal + ",\"datatype\":\"~dates\"",
-            literal + ",\"datatype\":\"~dat\"", literal + ",\"datatype\":\"date~1\"", literal + ",\"datatype\":~date"};
+            literal + ",\"datatype\":\"~dat\"", literal + ",\"datatype\":\"~late\"", literal + ",\"datatype\":\"date~1\"", literal + ",\"datatype\":~date"};
         for (String row : rows) faults(0, HEAD0 + row);
         String empty = "{\"head\":{\"vars\":[]},\"results\":{\"bindings\":[";
         faults(0, empty + "{}" + Subject.times(",{}", 23) + ",~{}]}}", empty + "{}" + Subject.times(",{}", 23) + ", ~{",
-            empty + "{}" + Subject.times(",{}", 23) + ",~x", empty + "{}" + Subject.times(",{}", 23) + "~x", empty + "{\"~x\"");
+            empty + "{}" + Subject.times(",{}", 23) + ",~x", sixBound() + ",\"~g\":", sixBound() + ",\"~f\":", sixBound() + ",~}", empty + "{}" + Subject.times(",{}", 23) + "~x", empty + "{\"~x\"");
+    }
+
+    /** A row of form 0 in which all of six variables have a term. */
+    private static String sixBound() {
+        StringBuilder head = new StringBuilder();
+        StringBuilder row = new StringBuilder();
+        for (char c = 'a'; c <= 'f'; c++) {
+            String comma = c == 'a' ? "" : ",";
+            head.append(comma).append('"').append(c).append('"');
+            row.append(comma).append('"').append(c).append("\":{\"type\":\"uri\",\"value\":\"u\"}");
+        }
+        return "{\"head\":{\"vars\":[" + head + "]},\"results\":{\"bindings\":[{" + row;
     }
 
     private static void jsonTexts() {
@@ -105,7 +117,8 @@ final class FaultTest {
 
     private static void xmlRows() {
         String x = "<binding name=\"x\">";
-        String[] rows = {"~", "~x", "<~", "<~x", "</~x", "</result>~x", "</result><~x", "</result></result~>", "<bind~x",
+        String[] rows = {"~", "~x", "<~", "<~x", "</~x", "</result>~x", "</result><~x", "</result></result~>", "<bind~x", "<bind~</results></sparql>",
+            "<bind~<result></result></results></sparql>", x + "<uri>a</~</results></sparql>", x + "<uri>a</uri></~</results></sparql>",
             "<binding name=\"~\"", "<binding name=\"~z\"", "<binding name=\"~xx\"", "<binding name=\"x~X", "<binding name=\"x\"~/>",
             x + "~", x + "~a", x + "<~", x + "<~x", x + "<~/binding>", x + "<u~x", x + "<uri~ ", x + "<b~inding", x + "<bnode~/",
             x + "<lit~x", x + "<literal~x", x + "<literal~/>", x + "<literal ~>", x + "<literal ~lang", x + "<literal x~x",
@@ -195,19 +208,42 @@ final class FaultTest {
             "<sparql><head></head><boolean>true</boolean>~");
     }
 
-    /** Forms 0 and 1 tell their end, so every beginning of a tape faults where it ends, or at what was cut. */
+    /**
+     * Forms 0 and 1 tell their end, so every beginning of a tape faults where it ends, or at the word that was cut.
+     * One object reads them all, the longest first, so that what stood on its tape before would fit behind each.
+     */
     private static void cutTapes() {
         String json = HEAD0 + "{\"x\":{\"type\":\"uri\",\"value\":\"a\"}}]}}";
-        String xml = HEAD1 + "<binding name=\"x\"><uri>a</uri></binding></result></results></sparql>";
+        String xml = HEAD1 + "<binding name=\"x\"><uri>a&amp;</uri></binding></result></results></sparql>";
         for (int form = 0; form <= 1; form++) {
             String whole = form == 0 ? json : xml;
-            for (int n = 0; n < whole.length(); n++) {
-                Subject s = new Subject();
-                boolean inKind = form == 0 && whole.indexOf("uri") < n && n < whole.indexOf("uri") + 3;
-                int place = inKind ? whole.indexOf("uri") : n;
-                Subject.due("form " + form + " cut at " + n, s.read(form, whole.substring(0, n)), -10 - place);
+            String word = form == 0 ? "uri" : "&amp;";
+            int from = whole.indexOf(word);
+            Subject s = new Subject();
+            for (int n = whole.length(); n >= 0; n--) {
+                boolean isCut = n > from && n < from + word.length();
+                int want = n == whole.length() ? 1 : -10 - (isCut ? from : n);
+                Subject.due("form " + form + " cut at " + n, s.read(form, whole.substring(0, n)), want);
             }
-            Subject.due("form " + form + " whole", new Subject().read(form, whole), 1);
+        }
+        cutLines(2, "x,y\r\n\"a\"\"\",_:ab\r\n", 5);
+        cutLines(3, "?x\t?y\n\"a\\n\"@en\t_:ab\n", 6);
+    }
+
+    /** The lines of forms 2 and 3 tell no end, but one that is begun must end. */
+    private static void cutLines(int form, String whole, int head) {
+        Subject s = new Subject();
+        Subject.due("form " + form, s.read(form, whole), 1);
+        for (int n = whole.length() - 1; n >= 0; n--) {
+            String tape = whole.substring(0, n);
+            int answer = s.read(form, tape);
+            if (n == head) {
+                Subject.due("form " + form + " cut behind its head", answer, 0);
+            } else if (tape.endsWith("\\") || tape.endsWith("@e")) {
+                Subject.due("form " + form + " cut at " + n, answer, -10 - (n - 1));
+            } else {
+                Subject.due("form " + form + " cut at " + n, answer, -10 - n);
+            }
         }
     }
 }

@@ -22,11 +22,12 @@ final class TableTest {
         Subject.due("variable az", s.variable("az"), 3);
         Subject.due("variable a again", s.variable("a"), ResultForms.BAD);
         Subject.due("variable az again", s.variable("az"), ResultForms.BAD);
+        for (String name : wrong) Subject.due("variable " + name + " behind others", s.variable(name), ResultForms.BAD);
         Subject.due("variables", s.x.count(0), 4);
         s.x.row();
         Subject.due("a new one when there is a row", s.variable("z"), ResultForms.NO);
         Subject.due("tape behind it", s.x.count(3), 0);
-        Subject.due("no name when there is a row", s.variable("Z"), ResultForms.BAD);
+        for (String name : wrong) Subject.due("variable " + name + " when there is a row", s.variable(name), ResultForms.BAD);
         Subject.due("a known one when there is a row", s.variable("a"), ResultForms.BAD);
         Subject.due("variables", s.x.count(0), 4);
         Subject.due("names as written", s.written(2), "a,abcdefgh,ab,az\r\n,,,\r\n");
