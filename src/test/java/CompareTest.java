@@ -45,6 +45,9 @@ final class CompareTest {
         Subject.due("same as the other", s.x.same(true), 1);
         s.x.distinct();
         Subject.due("still", s.x.same(false), 1);
+        s.read(2, "y,z\r\na,b\r\n");
+        s.read(2, "y\r\n");
+        Subject.due("names that were there before do not count", s.x.same(true), 1);
     }
 
     private static void compared(String kept, String table, int ordered, int unordered, int... lacks) {
