@@ -1,24 +1,32 @@
 import java.nio.charset.StandardCharsets;
+import java.util.function.IntSupplier;
 
 /** A ResultForms under test: types texts, gives back the out, and notes every answer that is not due. */
 final class Subject {
     private static int wrong = 0;
     private static int looked = 0;
+    private static String sentence = "";
 
     final ResultForms x = new ResultForms();
 
+    /** The document's sentence against which the answers from here on are held. */
+    static void sentence(String words) {
+        sentence = words;
+    }
+
     static void due(String what, long got, long want) {
         looked++;
-        if (got == want) return;
-        wrong++;
-        System.out.println(what + " answered " + got + ", due is " + want);
+        if (got != want) tell(what + " answered " + got + ", due is " + want);
     }
 
     static void due(String what, String got, String want) {
         looked++;
-        if (got.equals(want)) return;
+        if (!got.equals(want)) tell(what + " is " + shown(got) + ", due is " + shown(want));
+    }
+
+    private static void tell(String fault) {
         wrong++;
-        System.out.println(what + " is " + shown(got) + ", due is " + shown(want));
+        System.out.println(fault + (sentence.isEmpty() ? "" : " (the document: " + sentence + ")"));
     }
 
     /** The end of each test's main. */
@@ -110,5 +118,30 @@ final class Subject {
             for (int v = 0; v < x.count(0); v++) s.append(' ').append(toldCell(r, v));
         }
         return s.toString();
+    }
+
+    /** All that calls can tell of an object but for its tape; names, too, when the table is the kept one. */
+    String state() {
+        StringBuilder s = new StringBuilder();
+        for (int t = 0; t < x.count(2); t++) s.append(told(t)).append(' ');
+        return s.append("| ").append(toldTable()).append(" | ").append(x.same(true)).append(" | ").append(out()).toString();
+    }
+
+    /** A call that is refused: it changes nothing, not the tape either. */
+    void refused(String what, int want, IntSupplier call) {
+        String before = state();
+        int tapeBefore = x.count(3);
+        due(what, call.getAsInt(), want);
+        due("the tape behind " + what, x.count(3), tapeBefore);
+        due("the rest behind " + what, state(), before);
+    }
+
+    /** A call that takes the tape and is refused: the tape is empty then, and nothing else has changed. */
+    void refusedTaking(String what, int want, String tape, IntSupplier call) {
+        String before = state();
+        tape(tape);
+        due(what, call.getAsInt(), want);
+        due("the tape behind " + what, x.count(3), 0);
+        due("the rest behind " + what, state(), before);
     }
 }
