@@ -779,6 +779,14 @@ final class EdgePromisesTest {
         compared("a,b,c,d,e,f\r\n", "a,b,c,d,e,g\r\n", 0, 0);
         compared("a,b,c,d,e,f\r\n,,,,,q\r\n", "a,b,c,d,e,f\r\n,,,,,q\r\n", 1, 1);
         compared("\r\n\r\n", "x\r\n\r\n", 0, 0);
+        Subject s = against("x\r\na\r\n", "x,y\r\na,b\r\n");
+        Subject.due("another name more", s.x.same(true), 0);
+        s.read(2, "x\r\na\r\n");
+        Subject.due("that has gone", s.x.same(true), 1);
+        s.x.clear();
+        s.variable("x");
+        s.row(s.term(2, 0, "a"));
+        Subject.due("or been cleared", s.x.same(true), 1);
     }
 
     private static void sameRows() {

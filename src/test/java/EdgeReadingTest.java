@@ -31,6 +31,8 @@ final class EdgeReadingTest {
         firstOfTwo();
         otherBytes();
         endsOfTapes();
+        partsLeftOut();
+        otherBytesThatStandElsewhere();
         fullTapes();
         wordLengths();
         namesThatAreThere();
@@ -108,19 +110,29 @@ final class EdgeReadingTest {
         return inside;
     }
 
-    /** A blank put in at each place: it is taken, or told at itself (or at the word that it cuts). */
+    /** Blanks put in at each place that is not between quotes are taken there; no other byte is. */
     private static void blanksOfForm0() {
         Subject.sentence("in form 0 blanks (9, 10, 13, 32) before each { } [ ] : , and each \" that begins something, and behind all");
-        for (int i = 0; i <= JSON.length(); i++) {
-            if (isInside(JSON, i)) continue;
+        putBlanksInto(JSON, JSON_TOLD);
+        putBlanksInto(VARS0 + ROWS0 + END0, "0 variables");
+        putBlanksInto(VARS0 + ROWS0 + "{}" + END0, "0 variables |");
+        truthsWithBlanks();
+    }
+
+    private static void putBlanksInto(String tape, String told) {
+        for (int i = 0; i <= tape.length(); i++) {
+            if (isInside(tape, i)) continue;
             for (char blank : BLANKS) {
-                reads(0, JSON.substring(0, i) + blank + JSON.substring(i), JSON_TOLD);
-                reads(0, JSON.substring(0, i) + blank + blank + JSON.substring(i), JSON_TOLD);
+                reads(0, tape.substring(0, i) + blank + tape.substring(i), told);
+                reads(0, tape.substring(0, i) + blank + blank + tape.substring(i), told);
             }
             for (char other : new char[] {0, 8, 11, 12, 14, 31, 33, 127, 160}) {
-                faults(0, JSON.substring(0, i) + "~" + other + JSON.substring(i));
+                faults(0, tape.substring(0, i) + "~" + other + tape.substring(i));
             }
         }
+    }
+
+    private static void truthsWithBlanks() {
         Subject.sentence("in form 0 blanks before a truth, and behind all");
         String truth = "{\"head\":{},\"boolean\":true}";
         for (int i = 0; i <= truth.length(); i++) {
@@ -267,18 +279,22 @@ final class EdgeReadingTest {
         }
     }
 
+    /** The tapes that are cut follow longer ones on the same object, of which no byte is on the tape any more. */
     private static void endsOfTapes() {
         Subject.sentence("something else than must come, at its first byte that is another one (the tape's length when it ends)");
         int[][] goodEnds = {{}, {}, {6, 13}, {7, 15}};
         for (int form = 0; form <= 3; form++) {
             String whole = unmarked(MARKED[form]);
-            Subject.due("form " + form, new Subject().read(form, whole), 2);
-            for (int n = 0; n < whole.length(); n++) {
+            Subject s = new Subject();
+            Subject.due("form " + form, s.read(form, whole), 2);
+            for (int n = whole.length() - 1; n >= 0; n--) {
                 int want = -10 - toldAt(MARKED[form], n);
                 for (int rows = 0; rows < goodEnds[form].length; rows++) {
                     if (n == goodEnds[form][rows]) want = rows;
                 }
-                Subject.due("form " + form + " cut at " + n, new Subject().read(form, whole.substring(0, n)), want);
+                if (n % 4 == 0) s = new Subject();
+                if (n % 4 == 0) s.read(form, whole);
+                Subject.due("form " + form + " cut at " + n, s.read(form, whole.substring(0, n)), want);
             }
         }
         for (int form = 0; form <= 1; form++) {
@@ -286,6 +302,43 @@ final class EdgeReadingTest {
             s.x.say(form, true);
             String whole = s.out();
             for (int n = 0; n < whole.length(); n++) truthFaults(form, whole.substring(0, n) + "~");
+        }
+    }
+
+    /**
+     * A tape that is taken is just what would be written: no byte of forms 0, 1 and 3 may come in two ways
+     * but for blanks, which are not tried here, and these two escapes.
+     */
+    private static void takenOnlyAsWritten(int form, String tape) {
+        Subject s = new Subject();
+        int answer = s.read(form, tape);
+        String told = form == 0 ? tape.replace("\\/", "/") : form == 1 ? tape.replace("&quot;", "\"") : tape;
+        if (answer >= 0) Subject.due("what is taken", told, s.written(form));
+        else Subject.due("the place of a fault is on the tape or its end", -10 - answer <= tape.length() ? 1 : 0, 1);
+    }
+
+    private static void partsLeftOut() {
+        Subject.sentence("nothing stands here but what is told; something else than must come, at its first byte that is another one");
+        for (int form : new int[] {0, 1, 3}) {
+            String whole = unmarked(MARKED[form]);
+            for (int from = 0; from < whole.length(); from++) {
+                for (int to = from + 1; to <= whole.length() && to < from + 60; to++) {
+                    takenOnlyAsWritten(form, whole.substring(0, from) + whole.substring(to));
+                }
+            }
+        }
+    }
+
+    private static void otherBytesThatStandElsewhere() {
+        Subject.sentence("nothing stands here but what is told; something else than must come, at its first byte that is another one");
+        for (int form : new int[] {0, 1, 3}) {
+            String whole = unmarked(MARKED[form]);
+            for (int i = 0; i < whole.length(); i++) {
+                for (char other : "{}[]:,\"<>/&\\?@^_;=abxy".toCharArray()) {
+                    takenOnlyAsWritten(form, whole.substring(0, i) + other + whole.substring(i + 1));
+                    takenOnlyAsWritten(form, whole.substring(0, i) + other + whole.substring(i));
+                }
+            }
         }
     }
 
@@ -423,7 +476,7 @@ final class EdgeReadingTest {
                 String name = names[type];
                 value(form, literal(form, false, name), "4/" + type + "/t");
                 String cut = name.substring(0, name.length() - 1);
-                for (String word : new String[] {"~" + cut, "~" + name + "s", "~" + cut + "A", name + "~A", name + "~1", "~x" + name, "~" + name.toUpperCase(),
+                for (String word : new String[] {"~" + cut, "~" + name + "s", "~" + cut + "A", name + "~A", name + "~1", "~x" + name, "~x" + name.substring(1), "~" + name.toUpperCase(),
                     "~" + cut + "z"}) {
                     valueFaults(form, literal(form, false, word));
                 }
@@ -572,7 +625,7 @@ final class EdgeReadingTest {
 
     private static void wordsForKinds() {
         Subject.sentence("A T that is none, at its first byte.");
-        for (String word : new String[] {"", "u", "ur", "urii", "urj", "bnod", "bnodes", "litera", "literals", "Uri", "URI", "typed", "x", "1", " uri"}) {
+        for (String word : new String[] {"", "u", "ur", "urii", "urj", "bnod", "bnodes", "litera", "literals", "Uri", "URI", "ari", "anode", "aiteral", "typed", "x", "1", " uri"}) {
             faults(0, BEFORE[0] + "~" + word + "\",\"value\":\"a\"" + BEHIND[0]);
         }
         value(0, json("uri", "a"), "0/0/a");
@@ -587,12 +640,13 @@ final class EdgeReadingTest {
         String bound = BEFORE[0] + json("literal", "a");
         faults(0, VARS0 + "~{", VARS0 + "~,", VARS0 + "\"x\"~}", VARS0 + "\"x\"~\"", VARS0 + "\"x\",~]", x + "~}", x + "~,", x + "~\"", x + "{~]", x + "{~,",
             x + "{}~}", x + "{}~{", x + "{},~]", x + "{},~,", bound + "~]", bound + "~\"", bound + ",~}", bound + ",\"~l", bound + ",\"~\"", bound + ",\"x~l",
-            bound + ",\"d~t", bound + "}~]", bound + "}~\"", bound + "},~}", BEFORE[0] + json("uri", "a") + "~,\"datatype\":\"date\"");
+            bound + ",\"d~t", bound + ",\"~}}]}}", bound + ",\"x~}}]}}", BEFORE[0] + "uri\"~}}]}}", BEFORE[0] + "literal\",~}}]}}", bound + "}~]", bound + "}~\"", bound + "},~}", BEFORE[0] + json("uri", "a") + "~,\"datatype\":\"date\"");
         String open = VARS1 + "<variable name=\"x\"/>";
         String row = open + ROWS1 + "<result>";
         faults(1, VARS1 + "~v", VARS1 + "<~x", VARS1 + "<~", VARS1 + "</~v", VARS1 + "<v~/", open + "<~h", open + "</~v", open + ROWS1 + "~r",
             open + ROWS1 + "<~b", open + ROWS1 + "</~s", open + ROWS1 + "<~", row + "<~r", row + "</~b", row + "~x", row + "</result><~x",
             row + "</result></~x", BEFORE[1] + "<~/", BEFORE[1] + "<~x", BEFORE[1] + "<u~x", BEFORE[1] + "<b~i", BEFORE[1] + "<l~x", BEFORE[1] + "~u",
+            row + "<bind~</results></sparql>", BEFORE[1] + "<uri>a</~</results></sparql>", BEFORE[1] + "<uri>a</uri></~</results></sparql>",
             BEFORE[1] + "<literal~=", BEFORE[1] + "<literal ~l", BEFORE[1] + "<literal x~l", BEFORE[1] + "<literal d~i",
             BEFORE[1] + "<uri>a</uri></binding><~r", BEFORE[1] + "<uri>a</uri></binding></~b", BEFORE[1] + "<uri>a</uri></binding>~r");
         faults(2, "~\n", "~,", "\r~x", "x~\n", "x\r~,", "x\r\n~\n", "x\r\na~\n", "x\r\na\r~a", "x\r\n_:a~B\r\n", "x,y\r\na~\r\n", "x,y\r\n~\r\n",
